@@ -206,7 +206,7 @@ public final class WhiteElephants {
         if (!now.things.has(thing) || !within(chip, 0, CHIPS - 1)) {
             return refuse(BAD);
         }
-        if (now.things.hasChip(thing, chip)) {
+        if (hasBit(now.things.chips[thing], chip)) {
             return 0;
         }
         now.things.chips[thing] |= 1 << chip;
@@ -904,6 +904,7 @@ public final class WhiteElephants {
         private static final int[] LIKED = {63, 48, 14};
         private static final int CLOTH_MOST = 200;
         private static final int LID = 50;
+        private static final int VASE_CHIP = 0;
         private static final int LID_CHIP = 7;
 
         final int[] kind = new int[THINGS];
@@ -928,10 +929,6 @@ public final class WhiteElephants {
             paid[count] = NONE;
             count++;
             return count - 1;
-        }
-
-        boolean hasChip(int t, int chip) {
-            return hasBit(chips[t], chip);
         }
 
         boolean isSold(int t) {
@@ -962,9 +959,9 @@ public final class WhiteElephants {
                 case CHINA:
                     return chinaWorth(t);
                 case VASE:
-                    return vaseWorth(t);
+                    return asVase(t, chinaWorth(t));
                 case LIDDED:
-                    return vaseWorth(t) + lidWorth(t);
+                    return asVase(t, chinaWorth(t)) + lidWorth(t);
                 case CLOTH:
                     return Math.min(worth[t], CLOTH_MOST);
                 default:
@@ -976,12 +973,12 @@ public final class WhiteElephants {
             return Math.max(0, worth[t] - worth[t] / 10 * Integer.bitCount(chips[t]));
         }
 
-        private int vaseWorth(int t) {
-            return hasChip(t, 0) ? chinaWorth(t) / 2 : chinaWorth(t);
+        private int asVase(int t, int pence) {
+            return hasBit(chips[t], VASE_CHIP) ? pence / 2 : pence;
         }
 
         private int lidWorth(int t) {
-            return hasChip(t, LID_CHIP) ? 0 : LID;
+            return hasBit(chips[t], LID_CHIP) ? 0 : LID;
         }
 
         /** What a THING says as one of a KIND, which the caller has found it to be. */
@@ -990,7 +987,7 @@ public final class WhiteElephants {
                 case CHINA:
                     return Integer.bitCount(chips[t]);
                 case VASE:
-                    return hasChip(t, 0) ? 1 : 0;
+                    return hasBit(chips[t], VASE_CHIP) ? 1 : 0;
                 case LIDDED:
                     return lidWorth(t);
                 case CLOTH:
@@ -1305,6 +1302,8 @@ public final class WhiteElephants {
         int bag = NEVER;
         int hour = 0;
         int taken = 0;
+        /** By lady and TABLE: what is LOST by her at it. */
+        private final int[] lostAt = new int[LADIES * TABLES];
         /** By LADIES who have a TABLE (bits): the least that is LOST at the TABLES that have none. */
         final int[] leastLost = new int[1 << LADIES];
 
@@ -1348,6 +1347,11 @@ public final class WhiteElephants {
 
         /** Fills leastLost; TABLES get LADIES in their order, so the next TABLE is how many have one. */
         void planTables() {
+            for (int lady = 0; lady < ladies.count; lady++) {
+                for (int table = 0; table < tableCount; table++) {
+                    lostAt[lady * TABLES + table] = lostOnKinds(lady, tables[table]);
+                }
+            }
             for (int busy = (1 << ladies.count) - 1; busy >= 0; busy--) {
                 int table = Integer.bitCount(busy);
                 int lady = bestLady(busy, table);
@@ -1375,7 +1379,7 @@ public final class WhiteElephants {
         }
 
         private int lostWith(int busy, int table, int lady) {
-            return lostOnKinds(lady, tables[table]) + leastLost[busy | 1 << lady];
+            return lostAt[lady * TABLES + table] + leastLost[busy | 1 << lady];
         }
 
         /** The lady of a TABLE, once leastLost is filled. */
