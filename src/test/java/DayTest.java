@@ -249,21 +249,18 @@ public final class DayTest {
         c.due(x.best(), 1212);
         x.mark(0, 110);
         c.due(x.best(), 1112);
-        // bagged for 10 or halved to 10: the latest HALF goes ahead of the latest BAG
-        x.mark(0, 20);
+        // 10 by a HALF or by a BAG: the latest HALF goes first, then the latest BAG
         WhiteElephants y = new WhiteElephants();
         y.thing(0, 10, 0);
         y.mark(0, 21);
         y.buyer(0, 500, 1, 100);
-        c.due(y.best(), 1112);
-        y.buyer(0, 10, 1, 100);
         c.due(y.best(), 1112);
         WhiteElephants z = new WhiteElephants();
         z.thing(0, 10, 0);
         z.mark(0, 90);
         z.buyer(4, 500, 1, 100);
         c.due(z.best(), 1111);
-        // HALF may be no later than BAG: (12, 0) would bring more here
+        // HALF may be no later than BAG: (12, 0) brings as much, and is no answer
         WhiteElephants w = new WhiteElephants();
         w.thing(0, 10, 0);
         w.mark(0, 2);
