@@ -6,22 +6,32 @@ public final class RoomTest {
     private static final long CALLS_BYTES = 20_000;
 
     public static void main(String[] args) {
-        java.lang.management.ThreadMXBean bean = ManagementFactory.getThreadMXBean();
-        if (!(bean instanceof com.sun.management.ThreadMXBean)) {
+        if (allocated() < 0) {
             System.out.println("this machine does not count bytes");
             return;
         }
-        com.sun.management.ThreadMXBean counter = (com.sun.management.ThreadMXBean) bean;
-        long id = Thread.currentThread().getId();
         fill(new WhiteElephants());
-        long start = counter.getThreadAllocatedBytes(id);
+        long start = allocated();
         WhiteElephants x = new WhiteElephants();
-        long made = counter.getThreadAllocatedBytes(id);
+        long made = allocated();
         fill(x);
-        long end = counter.getThreadAllocatedBytes(id);
+        long end = allocated();
         System.out.println(made - start + " bytes for an object, " + (end - made) + " for its calls");
         if (made - start > OBJECT_BYTES || end - made > CALLS_BYTES) {
             System.exit(1);
+        }
+    }
+
+    /** The bytes that this thread has taken so far; looked up by name, for not every JDK can tell. */
+    private static long allocated() {
+        try {
+            Object bean = ManagementFactory.getThreadMXBean();
+            Class<?> counter = Class.forName("com.sun.management.ThreadMXBean");
+            Object bytes = counter.getMethod("getThreadAllocatedBytes", long.class)
+                .invoke(bean, Thread.currentThread().getId());
+            return (Long) bytes;
+        } catch (ReflectiveOperationException | IllegalArgumentException e) {
+            return -1;
         }
     }
 
