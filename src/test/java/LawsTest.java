@@ -143,6 +143,9 @@ public final class LawsTest {
         dueFault("known\t5", 5);
         dueFault("known 5;" + (char) 235 + "least 5", 8);
         dueFault((char) 0 + "known 5", 0);
+        dueFault("\r", 0);
+        dueFault("known 5\n", 7);
+        dueFault("known 5;\r", 8);
         dueFault("known 201", 6);
         dueFault("strange 201", 8);
         dueFault("round 51", 6);

@@ -16,7 +16,7 @@ public final class PlainHall {
     private static final List<String> PARTS = List.of("known", "strange", "round", "least", "most");
     private static final int[] PART_LEAST = {0, 0, 1, 0, 0};
     private static final int[] PART_MOST = {200, 200, 50, 999, 999};
-    private static final Pattern TOKEN = Pattern.compile(" *(?:([a-z]+)|([0-9]+)|(;)|($)|(.))", Pattern.DOTALL);
+    private static final Pattern TOKEN = Pattern.compile(" *(?:([a-z]+)|([0-9]+)|(;)|(\\z)|(.))", Pattern.DOTALL);
 
     private static final class Thing implements Cloneable {
         int kind;
