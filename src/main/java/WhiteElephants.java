@@ -1308,9 +1308,13 @@ public final class WhiteElephants {
         final int[] leastLost = new int[1 << LADIES];
 
         int priceBy(int lady, int t) {
+            return priceOf(lady, t, things.trueWorth(t));
+        }
+
+        private int priceOf(int lady, int t, int truth) {
             int law = ladies.law[lady];
             int pence = hasBit(ladies.knows[lady], things.kind[t])
-                    ? laws.part(law, Laws.KNOWN) * things.trueWorth(t) / HUNDRED
+                    ? laws.part(law, Laws.KNOWN) * truth / HUNDRED
                     : laws.part(law, Laws.STRANGE) * ladies.guess[lady] / HUNDRED;
             int round = laws.part(law, Laws.ROUND);
             if (round > 1) {
@@ -1321,7 +1325,8 @@ public final class WhiteElephants {
         }
 
         int lostOn(int lady, int t) {
-            return Math.max(0, things.trueWorth(t) - priceBy(lady, t));
+            int truth = things.trueWorth(t);
+            return Math.max(0, truth - priceOf(lady, t, truth));
         }
 
         int lostOnKinds(int lady, int kinds) {

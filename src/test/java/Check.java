@@ -1,8 +1,11 @@
+import java.util.Arrays;
+import java.util.List;
 import java.util.function.IntSupplier;
 
 /** Counts answers that are not as due, and tells the line of the test that asked. */
 final class Check {
     private static final int REFUSALS = 5;
+    private static final List<String> HELPERS = List.of("Check", "Scenes");
     private int asked = 0;
     private int wrong = 0;
 
@@ -28,6 +31,18 @@ final class Check {
             wrong++;
             System.out.println(line() + ": answered " + got + ", due is the refusal " + want
                     + (counted ? "" : ", which is not counted as is due"));
+        }
+    }
+
+    /** Two rows of answers are the same; what tells what it means if they are not. */
+    void same(long[] got, long[] want, String what) {
+        asked++;
+        int place = Arrays.mismatch(got, want);
+        if (place >= 0) {
+            wrong++;
+            System.out.println(line() + ": " + what + ": answer " + place + " of " + got.length + " is "
+                    + (place < got.length ? got[place] : "missing") + ", due is "
+                    + (place < want.length ? want[place] : "none"));
         }
     }
 
@@ -65,7 +80,7 @@ final class Check {
 
     private static String line() {
         for (StackTraceElement e : new Throwable().getStackTrace()) {
-            if (!e.getClassName().equals("Check")) {
+            if (!HELPERS.contains(e.getClassName())) {
                 return e.getFileName() + ":" + e.getLineNumber();
             }
         }
