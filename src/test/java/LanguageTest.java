@@ -5,7 +5,9 @@ import java.nio.file.Files;
 import java.nio.file.Path;
 import java.util.ArrayList;
 import java.util.Arrays;
+import java.util.HashMap;
 import java.util.List;
+import java.util.Map;
 import java.util.Set;
 import java.util.TreeSet;
 import java.util.regex.Matcher;
@@ -28,11 +30,17 @@ public final class LanguageTest {
     public static void main(String[] args) throws Exception {
         rule1Face();
         rules1And2ClassesInside();
+        rule3Types();
         rules5And11Fields();
+        rule5RowsNeverChange();
         rule11Parameters();
         String source = withoutTextsAndRemarks(Files.readString(Path.of(SOURCE)));
         rules4And6Words(source);
+        rules6And12CastsAndMaking(source);
+        rule9LoopsHaveABound(source);
+        rule10NoTextsAreJoined(source);
         rule11MethodsStayShort(source);
+        rules8And11CallsAreNotDeep(source);
         rule3Signs(Files.readString(Path.of(SOURCE)));
         System.out.println(wrong + " rules not kept");
         if (wrong != 0) {
@@ -91,6 +99,53 @@ public final class LanguageTest {
         }
     }
 
+    private static void rule3Types() {
+        for (Class<?> c : classes()) {
+            for (Field f : c.getDeclaredFields()) {
+                keep(mayBe(f.getType()), f + " is of a type that may not be");
+            }
+            for (Method m : c.getDeclaredMethods()) {
+                keep(mayBe(m.getReturnType()), m + " answers what may not be");
+                for (Class<?> type : m.getParameterTypes()) {
+                    keep(mayBe(type), m + " takes what may not be");
+                }
+            }
+        }
+    }
+
+    /** Numbers, texts, own classes, and rows of these. */
+    private static boolean mayBe(Class<?> type) {
+        Class<?> one = type.isArray() ? type.getComponentType() : type;
+        return one.isPrimitive() || !type.isArray() && one == String.class || classes().contains(one);
+    }
+
+    /** Static rows tell the same when all has been asked. */
+    private static void rule5RowsNeverChange() throws IllegalAccessException {
+        String before = staticRows();
+        WhiteElephants x = new WhiteElephants();
+        Scenes.full(x);
+        for (int part = 0; part < Told.PARTS; part++) {
+            Told.part(x, part);
+        }
+        keep(before.equals(staticRows()), "a static row has changed");
+        keep(before.length() > 20, "static rows are looked at");
+    }
+
+    private static String staticRows() throws IllegalAccessException {
+        StringBuilder told = new StringBuilder();
+        for (Class<?> c : classes()) {
+            for (Field f : c.getDeclaredFields()) {
+                if (Modifier.isStatic(f.getModifiers())) {
+                    keep(Set.of(int.class, int[].class).contains(f.getType()), f + " is no int and no row of ints");
+                    f.setAccessible(true);
+                    Object row = f.get(null);
+                    told.append(row instanceof int[] ? Arrays.toString((int[]) row) : "");
+                }
+            }
+        }
+        return told.toString();
+    }
+
     private static void rules5And11Fields() {
         for (Class<?> c : classes()) {
             int fields = 0;
@@ -132,6 +187,105 @@ public final class LanguageTest {
         while (rows.find()) {
             keep(rows.group(1).equals("fill"), "Arrays." + rows.group(1));
         }
+    }
+
+    private static void rules6And12CastsAndMaking(String source) {
+        Matcher casts = Pattern.compile("\\((\\w+)\\) ?[\\w(]").matcher(source);
+        while (casts.find()) {
+            boolean isCast = !source.substring(0, casts.start()).matches("(?s).*(\\w|if |for |while |switch )");
+            keep(!isCast || Set.of("int", "short", "byte", "long").contains(casts.group(1)), "a cast: " + casts.group());
+        }
+        for (String line : source.split("\n")) {
+            // made with the object: in a field, or in the one constructor
+            boolean made = line.matches(" +(private )?final \\w+(\\[\\])? \\w+ = new .*")
+                || line.strip().equals("shelves[s] = new Shelf();");
+            keep(!line.contains("new ") || made, "made by a call: " + line.strip());
+        }
+    }
+
+    private static void rule9LoopsHaveABound(String source) {
+        Matcher loops = Pattern.compile("\\b(for|while) \\((.*)\\) \\{").matcher(source);
+        int seen = 0;
+        while (loops.find()) {
+            seen++;
+            boolean bounded = loops.group(1).equals("for")
+                ? loops.group(2).matches("int (\\w+) = .*; .*\\b\\1 (<|<=|>|>=) .*; \\1(\\+\\+|--)")
+                : loops.group(2).matches("(\\w+) < \\w+ && .*");
+            keep(bounded, "a loop without a bound: " + loops.group());
+        }
+        keep(seen > 40 && !source.matches("(?s).*\\bdo \\{.*"), "loops are looked at");
+    }
+
+    private static void rule10NoTextsAreJoined(String source) {
+        for (String line : source.split("\n")) {
+            keep(!line.contains("\"\"") || line.contains("isWord(\"\")"), "a text: " + line.strip());
+        }
+    }
+
+    /** How many calls stand open at most, by "class.name"; a method that calls itself must guard its depth. */
+    private static void rules8And11CallsAreNotDeep(String source) {
+        Map<String, String> bodies = bodies(source);
+        Map<String, Integer> depths = new HashMap<>();
+        for (String method : bodies.keySet()) {
+            int depth = depth(method, bodies, depths, 1);
+            keep(depth <= 8, method + " stands " + depth + " calls deep");
+        }
+        int methods = 1;
+        for (Class<?> c : classes()) {
+            methods += (int) Arrays.stream(c.getDeclaredMethods()).filter(m -> !m.isSynthetic()).count();
+        }
+        keep(bodies.size() == methods, "all methods and the constructor are looked at: " + bodies.size());
+    }
+
+    private static Map<String, String> bodies(String source) {
+        Map<String, String> bodies = new HashMap<>();
+        Pattern head = Pattern.compile("( {4}| {8})(?:\\w+ )*?[\\w\\[\\]]+ (\\w+)\\([^)]*\\) \\{");
+        String inside = "";
+        String method = "";
+        for (String line : source.split("\n")) {
+            Matcher m = head.matcher(line);
+            if (line.contains(" class ")) {
+                inside = line.replaceAll(".* class (\\w+).*", "$1");
+            } else if (line.equals("    }") && !inside.equals("WhiteElephants") && method.isEmpty()) {
+                inside = "WhiteElephants";
+            } else if (m.matches()) {
+                method = inside + "." + m.group(2);
+                bodies.put(method, "");
+            } else if (line.equals("    }") || line.equals("        }") && !inside.equals("WhiteElephants")) {
+                method = "";
+            } else if (!method.isEmpty()) {
+                bodies.merge(method, line + "\n", String::concat);
+            }
+        }
+        return bodies;
+    }
+
+    private static int depth(String method, Map<String, String> bodies, Map<String, Integer> known, int open) {
+        if (known.containsKey(method)) {
+            return known.get(method);
+        }
+        if (open > 100) {
+            keep(false, method + " leads to itself by others");
+            return 0;
+        }
+        int deepest = 0;
+        Matcher calls = Pattern.compile("(\\.?)\\b([a-z]\\w*)\\(").matcher(bodies.get(method));
+        while (calls.find()) {
+            String own = method.substring(0, method.indexOf('.')) + "." + calls.group(2);
+            if (own.equals(method) && calls.group(1).isEmpty()) {
+                keep(bodies.get(method).contains("depth + 1"), method + " calls itself without a guard");
+                continue;
+            }
+            for (String other : bodies.keySet()) {
+                boolean named = other.endsWith("." + calls.group(2));
+                boolean others = !other.equals(own) && (!calls.group(1).isEmpty() || !bodies.containsKey(own));
+                if (named && (others || other.equals(own) && !method.equals(own))) {
+                    deepest = Math.max(deepest, depth(other, bodies, known, open + 1));
+                }
+            }
+        }
+        known.put(method, deepest + 1);
+        return deepest + 1;
     }
 
     private static void rule11MethodsStayShort(String source) {

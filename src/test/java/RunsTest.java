@@ -2,6 +2,7 @@ import java.lang.reflect.Method;
 import java.util.ArrayList;
 import java.util.Arrays;
 import java.util.List;
+import java.util.Map;
 import java.util.Random;
 import java.util.TreeMap;
 
@@ -21,6 +22,18 @@ public final class RunsTest {
         "table kinds", "who table-", "sight year chips person- person-", "same sighting sighting", "vases", "longest",
         "secret thing person", "looks person tables", "laid room thing", "shortBy sum", "hall three thing", "image",
         "back", "status what17"};
+
+    /** The least and the greatest that may be, where these are not by what there is. */
+    private static final Map<String, int[]> ENDS = Map.ofEntries(
+        Map.entry("s", new int[] {0, 7}), Map.entry("sort", new int[] {0, 4}), Map.entry("n40", new int[] {0, 40}),
+        Map.entry("i40", new int[] {0, 39}), Map.entry("kind", new int[] {0, 5}), Map.entry("pence", new int[] {0, 999}),
+        Map.entry("chips", new int[] {0, 255}), Map.entry("bit", new int[] {0, 7}), Map.entry("kinds", new int[] {0, 63}),
+        Map.entry("n4", new int[] {1, 4}), Map.entry("hour", new int[] {0, 11}), Map.entry("hour13", new int[] {0, 12}),
+        Map.entry("hours", new int[] {1, 12}), Map.entry("purse", new int[] {0, 9999}),
+        Map.entry("eye", new int[] {0, 300}), Map.entry("minutes", new int[] {0, 200}),
+        Map.entry("year", new int[] {0, 99}), Map.entry("person", new int[] {0, 15}),
+        Map.entry("tables", new int[] {0, 31}), Map.entry("room", new int[] {1, 10}),
+        Map.entry("sum", new int[] {1, 9999}), Map.entry("two", new int[] {0, 1}), Map.entry("three", new int[] {0, 2}));
 
     private final Random random;
     private final WhiteElephants x = new WhiteElephants();
@@ -205,7 +218,12 @@ public final class RunsTest {
         if (orNone && random.nextInt(5) == 0) {
             return -1;
         }
-        return number(orNone ? kind.substring(0, kind.length() - 1) : kind);
+        String plainKind = orNone ? kind.substring(0, kind.length() - 1) : kind;
+        int[] ends = ENDS.get(plainKind);
+        if (ends != null && random.nextInt(25) == 0) {
+            return new int[] {ends[0] - 1, ends[0], ends[1], ends[1] + 1}[random.nextInt(4)];
+        }
+        return number(plainKind);
     }
 
     private int upTo(int most) {
