@@ -1127,7 +1127,7 @@ public final class WhiteElephants {
             int pairs = 0;
             for (int i = 0; i < count; i++) {
                 Arrays.fill(tried, NONE);
-                if (findsNext(i, 0)) {
+                if (findsNext(this, i, 0)) {
                     pairs++;
                 }
             }
@@ -1135,15 +1135,15 @@ public final class WhiteElephants {
         }
 
         /** Finds a later one for i; who stands before that one must find another (each level tries one more). */
-        private boolean findsNext(int i, int depth) {
+        private static boolean findsNext(Sightings all, int i, int depth) {
             if (depth > SIGHTINGS) {
                 return false;
             }
-            for (int later = 0; later < count; later++) {
-                if (tried[later] == NONE && mayBeOf(i, later)) {
-                    tried[later] = i;
-                    if (before[later] == NONE || findsNext(before[later], depth + 1)) {
-                        before[later] = i;
+            for (int later = 0; later < all.count; later++) {
+                if (all.tried[later] == NONE && all.mayBeOf(i, later)) {
+                    all.tried[later] = i;
+                    if (all.before[later] == NONE || findsNext(all, all.before[later], depth + 1)) {
+                        all.before[later] = i;
                         return true;
                     }
                 }

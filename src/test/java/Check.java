@@ -17,6 +17,15 @@ final class Check {
         }
     }
 
+    /** Holds; what tells what it means if it does not. */
+    void holds(boolean held, String what) {
+        asked++;
+        if (!held) {
+            wrong++;
+            System.out.println(line() + ": " + what);
+        }
+    }
+
     /** The call answers a refusal, and that refusal alone is counted, once. */
     void refused(WhiteElephants x, int want, IntSupplier call) {
         int[] before = refusals(x);

@@ -13,6 +13,7 @@ public final class ChoicesTest {
         promise45ShortOfSeveral();
         promise46Hall();
         promise46HallOfSeveral();
+        promise46HallOfAllAsItIs();
         c.end();
     }
 
@@ -274,5 +275,24 @@ public final class ChoicesTest {
         dueHalls(x, 0, 0, 2, 1, 0, 2, 1);
         // 1: the BOOK; 2: CLOTH; 0: the later 50; 1: 50; 2: the later 0; 0: 0
         dueHalls(x, 1, 1, 0, 2, 1, 0, 2);
+    }
+
+    private static void promise46HallOfAllAsItIs() {
+        WhiteElephants x = new WhiteElephants();
+        x.thing(1, 100, 0);
+        x.thing(1, 95, 0);
+        dueHalls(x, 0, 0, 1);
+        x.image();
+        // a CHIP: 90
+        x.chip(0, 5);
+        dueHalls(x, 0, 1, 0);
+        x.thing(0, 200, 0);
+        dueHalls(x, 0, 2, 1, 0);
+        x.mark(2, 0);
+        x.buyer(0, 0, 1, 0);
+        x.go(1);
+        dueHalls(x, 0, 1, 0, -1);
+        x.back();
+        dueHalls(x, 0, 0, 1);
     }
 }

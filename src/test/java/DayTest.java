@@ -9,14 +9,18 @@ public final class DayTest {
         promise25Costs();
         promise26Takes();
         promise26TakesByPurseAndGain();
+        promise26TakesOfGainsThatAreCut();
+        promise26TakesInHoursThatAreOver();
         promise27Takings();
         promise27TakingsLeaveAllAsItIs();
         promise28Best();
         promise28BestOfSeveral();
+        promise28BestOfAllAsItIs();
         promise29Judge();
         promise30Rest();
         promise32Go();
         promise32GoBuyerByBuyer();
+        promise32GoByNumbersNotByHours();
         promises33And34DayAndMorning();
         c.end();
     }
@@ -180,6 +184,38 @@ public final class DayTest {
         c.due(x.takes(5, 6), -1);
     }
 
+    private static void promise26TakesOfGainsThatAreCut() {
+        WhiteElephants x = new WhiteElephants();
+        x.thing(0, 100, 0);
+        x.thing(0, 101, 0);
+        x.mark(0, 41);
+        x.mark(1, 41);
+        // 51 of 101 is 51.51: cut, both GAINS are 10, and the first is taken
+        x.buyer(0, 100, 1, 51);
+        c.due(x.takes(0, 0), 0);
+        x.buyer(0, 100, 1, 100);
+        c.due(x.takes(1, 0), 1);
+    }
+
+    private static void promise26TakesInHoursThatAreOver() {
+        WhiteElephants x = new WhiteElephants();
+        x.thing(0, 100, 0);
+        x.thing(0, 100, 0);
+        x.mark(0, 30);
+        x.buyer(0, 100, 1, 100);
+        c.due(x.go(6), 30);
+        x.mark(1, 40);
+        c.due(x.takes(0, 0), 1);
+        c.due(x.takes(0, 5), 1);
+        c.due(x.takes(0, 6), 1);
+        x.go(12);
+        c.due(x.day(0), 12);
+        x.morning();
+        x.thing(0, 100, 0);
+        x.mark(2, 25);
+        c.due(x.takes(0, 11), 2);
+    }
+
     private static void promise27Takings() {
         WhiteElephants x = new WhiteElephants();
         x.thing(0, 100, 0);
@@ -268,6 +304,50 @@ public final class DayTest {
         c.due(w.takings(12, 0), 10);
         c.due(w.takings(0, 0), 10);
         c.due(w.best(), 0);
+        // in HOURS 10 and 11: 15, then 10 by the BAG; or 7, then 18 by HALF: the latest HALF, though the BAG is earlier
+        WhiteElephants v = new WhiteElephants();
+        v.thing(0, 15, 0);
+        v.thing(0, 18, 0);
+        v.mark(0, 15);
+        v.mark(1, 36);
+        v.buyer(10, 25, 1, 100);
+        c.due(v.takings(11, 11), 15 + 10);
+        c.due(v.takings(10, 12), 7 + 18);
+        c.due(v.takings(11, 12), 15);
+        c.due(v.takings(10, 11), 7 + 10);
+        c.due(v.best(), 1111);
+    }
+
+    private static void promise28BestOfAllAsItIs() {
+        WhiteElephants x = new WhiteElephants();
+        x.thing(1, 100, 0);
+        x.thing(1, 100, 0);
+        x.mark(0, 100);
+        x.buyer(0, 500, 2, 100);
+        c.due(x.best(), 1212);
+        // a CHIP makes it too dear, another PRICE does not
+        x.chip(0, 3);
+        c.due(x.best(), 1112);
+        x.mark(0, 90);
+        c.due(x.best(), 1212);
+        x.image();
+        x.lady(2, 0);
+        Check.law(x, "known 150");
+        x.goes(0, 0);
+        c.due(x.price(0, 2), 1);
+        c.due(x.thingOf(1, 4), 150);
+        c.due(x.best(), 1112);
+        x.back();
+        c.due(x.best(), 1212);
+        x.mark(1, 150);
+        c.due(x.best(), 1112);
+        // what is SOLD is out, and an empty PURSE buys nothing
+        c.due(x.go(1), 90);
+        x.mark(1, 900);
+        c.due(x.best(), 1111);
+        x.turn(1, 1);
+        c.due(x.go(1), 10);
+        c.due(x.best(), 1212);
     }
 
     private static void promise29Judge() {
@@ -395,6 +475,25 @@ public final class DayTest {
         c.due(x.buyerOf(0, 4), 1);
         c.due(x.buyerOf(1, 4), 1);
         c.due(x.buyerOf(2, 4), 1);
+    }
+
+    private static void promise32GoByNumbersNotByHours() {
+        WhiteElephants x = new WhiteElephants();
+        x.thing(0, 10, 0);
+        x.thing(0, 10, 0);
+        x.mark(0, 20);
+        x.mark(1, 22);
+        x.buyer(3, 100, 1, 100);
+        x.buyer(0, 100, 1, 110);
+        x.turn(0, 3);
+        // who came later, but has the lesser number, takes first
+        c.due(x.takes(0, 3), 0);
+        c.due(x.takes(1, 3), 0);
+        c.due(x.takings(3, 12), 10 + 11);
+        c.due(x.go(3), 0);
+        c.due(x.go(1), 10 + 11);
+        c.due(x.thingOf(0, 5), 0);
+        c.due(x.thingOf(1, 5), 1);
     }
 
     private static void promises33And34DayAndMorning() {

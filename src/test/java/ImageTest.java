@@ -6,6 +6,7 @@ public final class ImageTest {
         promise47And48KeepsAll();
         promise48BackSeveralTimes();
         promise48Shelves();
+        promise48AnswersOfWhatCameBack();
         promise48LeavesTapeAndRefusals();
         promise49Status();
         c.end();
@@ -114,6 +115,8 @@ public final class ImageTest {
         x.row(3, 2, 2);
         x.show(4, -1);
         c.due(x.status(8), 4);
+        c.due(x.holds(0), 11);
+        c.due(x.holds(1), 12);
         c.due(x.back(), 1);
         c.due(x.holds(0), 11);
         c.due(x.holds(1), -1);
@@ -126,6 +129,40 @@ public final class ImageTest {
         c.due(x.thing(0, 9, 0), 2);
         c.due(x.holds(1), -1);
         c.refused(x, -4, () -> x.says(1, 0));
+    }
+
+    private static void promise48AnswersOfWhatCameBack() {
+        WhiteElephants x = new WhiteElephants();
+        x.thing(0, 50, 0);
+        x.thing(0, 40, 0);
+        x.mark(0, 30);
+        x.buyer(0, 100, 1, 100);
+        x.sight(1, 0, 2, 3);
+        c.due(x.takes(0, 0), 0);
+        c.due(x.shortBy(30), -1);
+        x.image();
+        c.due(x.go(1), 30);
+        x.mark(1, 5);
+        x.sight(2, 0, 3, 4);
+        c.due(x.takes(0, 0), 1);
+        c.due(x.shortBy(30), 1);
+        c.due(x.same(0, 1), 1);
+        c.due(x.hall(0, 0), -1);
+        c.due(x.hall(0, 1), 0);
+        c.due(x.shown(2), 2);
+        c.due(x.takings(12, 12), 5);
+        x.back();
+        c.due(x.takes(0, 0), 0);
+        c.due(x.shortBy(30), -1);
+        c.bad(x, () -> x.same(0, 1));
+        c.due(x.hall(0, 0), 0);
+        c.due(x.hall(0, 1), 1);
+        c.due(x.shown(2), 1);
+        c.due(x.takings(12, 12), 30);
+        // another SIGHTING gets the number that was lost
+        c.due(x.sight(2, 0, 9, 4), 1);
+        c.due(x.same(0, 1), 0);
+        c.due(x.vases(), 2);
     }
 
     private static void promise48LeavesTapeAndRefusals() {

@@ -122,9 +122,9 @@ public final class LanguageTest {
     /** Static rows tell the same when all has been asked. */
     private static void rule5RowsNeverChange() throws IllegalAccessException {
         String before = staticRows();
-        WhiteElephants x = new WhiteElephants();
-        Scenes.full(x);
         for (int part = 0; part < Told.PARTS; part++) {
+            WhiteElephants x = new WhiteElephants();
+            Scenes.full(x);
             Told.part(x, part);
         }
         keep(before.equals(staticRows()), "a static row has changed");

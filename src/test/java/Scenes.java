@@ -182,6 +182,136 @@ final class Scenes {
         return x.law();
     }
 
+    /** Some of all, so chosen that whatever changes can be told: richHall, an image of that, richMore, richRound. */
+    static void rich(WhiteElephants x) {
+        richHall(x);
+        x.image();
+        richMore(x);
+        richRound(x);
+    }
+
+    /** The same without an image. */
+    static void richUnkept(WhiteElephants x) {
+        richHall(x);
+        richMore(x);
+        richRound(x);
+    }
+
+    /**
+     * THINGS 0 to 9, of which 1 and 5 are SOLD, 6 and 8 UNPRICED; 2 LADIES, 2 LAWS, 3 BUYERS, 2 TABLES, 5 SIGHTINGS,
+     * 3 SECRETS; each person LOOKS at some TABLES; HOUR 1 is next.
+     */
+    static void richHall(WhiteElephants x) {
+        int[] kinds = {0, 2, 3, 4, 5, 1, 2, 5, 4, 0};
+        for (int t = 0; t < kinds.length; t++) {
+            x.thing(kinds[t], 990 - 70 * t, t == 2 ? 129 : 3 * t);
+        }
+        x.lady(20, 300);
+        x.lady(3, 111);
+        feed(x, "known 70; strange 200");
+        x.law();
+        feed(x, "strange 199;most 900");
+        x.law();
+        x.goes(0, 0);
+        x.goes(1, 1);
+        int[] prices = {940, 300, 260, 150, 600, 410, -1, 450, -1, 500};
+        for (int t = 0; t < prices.length; t++) {
+            x.mark(t, prices[t]);
+        }
+        x.buyer(0, 2000, 6, 120);
+        x.buyer(0, 990, 2, 110);
+        x.buyer(4, 3000, 49, 105);
+        x.table(7);
+        x.table(48);
+        x.sight(3, 1, 2, 5);
+        x.sight(9, 3, 5, 4);
+        x.sight(9, 1, -1, 5);
+        x.sight(14, 67, 4, -1);
+        x.sight(30, 75, 7, 5);
+        x.secret(2, 3);
+        x.secret(5, 0);
+        x.secret(3, 4);
+        for (int person = 0; person < 16; person++) {
+            x.looks(person, 1 << person % 5);
+        }
+        x.turn(0, 9);
+        x.turn(1, 11);
+        x.go(1);
+    }
+
+    /** THINGS 10 and 11; THING 8 is PRICED, 10 SOLD, 11 PRICED; one more of all else; HOUR 3 is next. */
+    static void richMore(WhiteElephants x) {
+        x.thing(2, 800, 6);
+        x.thing(3, 400, 2);
+        x.chip(0, 2);
+        x.chip(2, 4);
+        x.mark(8, 130);
+        x.mark(10, 200);
+        x.mark(11, 211);
+        x.lady(8, 222);
+        feed(x, "most 800;known 30;strange 150");
+        x.law();
+        x.goes(0, 2);
+        x.buyer(2, 500, 8, 90);
+        x.table(2);
+        x.sight(44, 79, 5, 1);
+        x.secret(11, 7);
+        x.looks(9, 30);
+        x.turn(0, 7);
+        x.turn(1, 10);
+        x.go(2);
+    }
+
+    /**
+     * SHELVES 0, 1, 3, 4 and 7 hold ROWS of 5, SHELF 6 the TAKINGS of rich HOUR by HOUR, SHELVES 2 and 5 THINGS 2 and 7;
+     * THE TAPE is a LAW; of each refusal there were some.
+     */
+    static void richRound(WhiteElephants x) {
+        int[] sorts = {2, 3, -1, 0, 4, -1, -1, 1};
+        for (int s = 0; s < sorts.length; s++) {
+            if (sorts[s] >= 0) {
+                x.row(s, sorts[s], 5);
+                x.set(s, 0, 300 + s);
+                x.set(s, 4, 90 + s);
+            }
+        }
+        x.show(2, 2);
+        x.show(5, 7);
+        int[] takings = {0, 0, 260, 0, 600, 940, 130, 225, 75, 250, 0, 0};
+        x.row(6, 2, takings.length);
+        for (int hour = 0; hour < takings.length; hour++) {
+            x.set(6, hour, takings[hour]);
+        }
+        for (int i = 0; i < 2; i++) {
+            x.thing(9, 0, 0);
+            x.set(2, 0, 0);
+            x.mark(1, 0);
+        }
+        x.show(1, -1);
+        x.set(1, 0, 0);
+        x.row(1, 3, 5);
+        x.set(1, 0, 500);
+        x.set(1, 4, 700);
+        for (int i = 0; i < 30; i++) {
+            x.feed(0x20202020, 4);
+        }
+        x.feed(32, 1);
+        x.wipe();
+        feed(x, "known 51;most 761");
+    }
+
+    /** Feeds a text to THE TAPE, four bytes a call. */
+    static void feed(WhiteElephants x, String text) {
+        for (int i = 0; i < text.length(); i += 4) {
+            int n = Math.min(4, text.length() - i);
+            int bytes = 0;
+            for (int j = 0; j < n; j++) {
+                bytes = bytes << 8 | text.charAt(i + j);
+            }
+            x.feed(bytes, n);
+        }
+    }
+
     /** One LADY, two TABLES. */
     static void twoTables(WhiteElephants x) {
         x.thing(1, 90, 0);

@@ -200,12 +200,19 @@ public final class ThingsTest {
         c.bad(x, () -> x.chip(0, -1));
         c.bad(x, () -> x.chip(0, 8));
         c.due(x.thingOf(0, 2), 129);
+        // what a SHELF's THING says is what it is now
+        x.show(5, 0);
+        c.due(x.says(5, 0), 40);
+        c.due(x.says(5, 1), 2);
+        x.chip(0, 6);
+        c.due(x.says(5, 0), 35);
+        c.due(x.says(5, 1), 3);
         // the PRICE stays when a CHIP comes, and a THING that is SOLD can get one
         x.mark(0, 10);
         x.buyer(0, 50, 63, 100);
         x.go(1);
         c.due(x.chip(0, 1), 1);
         c.due(x.thingOf(0, 4), 10);
-        c.due(x.thingOf(0, 3), 35);
+        c.due(x.thingOf(0, 3), 30);
     }
 }

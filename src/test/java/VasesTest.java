@@ -99,6 +99,11 @@ public final class VasesTest {
         c.due(z.same(0, 2), 0);
         c.due(z.vases(), 1);
         c.due(z.longest(), 3);
+        // nor can a VASE leave it out: two of 1 and two of 5 need it, and it is of one VASE alone
+        z.sight(1, 0, 1, 2);
+        z.sight(3, 0, 5, 6);
+        c.due(z.vases(), 3);
+        c.due(z.longest(), 3);
     }
 
     private static void promise40VasesChangeTheirNext() {
