@@ -281,8 +281,8 @@ public final class ChoicesTest {
         WhiteElephants x = new WhiteElephants();
         x.thing(1, 100, 0);
         x.thing(1, 95, 0);
-        dueHalls(x, 0, 0, 1);
         x.image();
+        dueHalls(x, 0, 0, 1);
         // a CHIP: 90
         x.chip(0, 5);
         dueHalls(x, 0, 1, 0);

@@ -334,6 +334,7 @@ public final class DayTest {
         x.lady(2, 0);
         Check.law(x, "known 150");
         x.goes(0, 0);
+        c.due(x.best(), 1212);
         c.due(x.price(0, 2), 1);
         c.due(x.thingOf(1, 4), 150);
         c.due(x.best(), 1112);

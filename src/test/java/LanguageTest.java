@@ -229,6 +229,10 @@ public final class LanguageTest {
         for (String method : bodies.keySet()) {
             int depth = depth(method, bodies, depths, 1);
             keep(depth <= 8, method + " stands " + depth + " calls deep");
+            String name = method.substring(method.indexOf('.') + 1);
+            boolean callsItself = Pattern.compile("(?<![.\\w])" + name + "\\(").matcher(bodies.get(method)).find();
+            keep(!callsItself || source.contains("private static boolean " + name + "("),
+                method + " calls itself and is not private and static");
         }
         int methods = 1;
         for (Class<?> c : classes()) {
