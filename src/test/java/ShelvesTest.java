@@ -4,6 +4,7 @@ public final class ShelvesTest {
 
     public static void main(String[] args) {
         promise1NewObject();
+        promise1NothingInCommon();
         promise2Row();
         promise3Set();
         promise3SetRefuses();
@@ -47,6 +48,63 @@ public final class ShelvesTest {
         c.due(x.shortBy(1), -1);
         c.refused(x, -5, () -> x.back());
         c.due(WhiteElephants.NONE, -1);
+    }
+
+    /** Each question is asked of one object in between what is changed and asked in another one. */
+    private static void promise1NothingInCommon() {
+        WhiteElephants unused = new WhiteElephants();
+        WhiteElephants[] both = {new WhiteElephants(), new WhiteElephants()};
+        for (WhiteElephants x : both) {
+            Scenes.rich(x);
+        }
+        WhiteElephants x = both[0];
+        WhiteElephants y = both[1];
+        y.wipe();
+        y.chip(0, 7);
+        y.thing(1, 5, 0);
+        y.row(0, 1, 1);
+        y.image();
+        y.go(9);
+        y.sight(98, 255, -1, -1);
+        y.looks(3, 31);
+        y.turn(0, 0);
+        y.thing(9, 9, 9);
+        c.due(x.status(0), 12);
+        c.due(x.status(5), 6);
+        c.due(x.status(7), 17);
+        c.due(x.status(12), 2);
+        c.due(x.day(0), 3);
+        c.due(x.element(0, 4), 90);
+        c.due(x.holds(0), 2);
+        c.due(x.thingOf(0, 2), 4);
+        c.due(x.who(-1), 1757);
+        c.due(y.best(), 1212);
+        c.due(x.best(), 1112);
+        c.due(x.shown(30), 409);
+        c.due(y.shown(30), 0);
+        c.due(x.shortBy(511), 2050);
+        c.due(x.laid(1, 5), 2);
+        c.due(x.vases(), 2);
+        c.due(x.longest(), 5);
+        c.due(x.looks(3, 8), 8);
+        c.due(x.turn(0, 7), 7);
+        c.due(x.law(), 3);
+        c.due(y.law(), -20);
+        c.due(x.back(), 1);
+        c.due(x.status(0), 10);
+        c.due(x.day(0), 1);
+        c.due(y.day(0), 12);
+        c.due(y.back(), 1);
+        c.due(y.status(0), 13);
+        c.due(y.day(0), 3);
+        // and those that are new have nothing of both
+        for (WhiteElephants z : new WhiteElephants[] {unused, new WhiteElephants()}) {
+            c.due(z.status(0), 0);
+            c.due(z.holds(0), -1);
+            c.refused(z, -5, () -> z.back());
+        }
+        c.due(x.back(), 1);
+        c.due(x.status(0), 10);
     }
 
     private static void promise2Row() {
